@@ -134,7 +134,7 @@ public final class PacketWall {
             return UNKNOWN;
         }
         headers.readAll(packets[p]);
-        return headers.hasHeader(h) ? headers.places[h] : NONE;
+        return headers.placeAt(h);
     }
 
     public int carried(int p, int h, int n) {
@@ -567,7 +567,8 @@ public final class PacketWall {
         static final int[] FORMS = {
             0, 1, 0, 8, 1, 1, 0, 8, 2, 2, 0, 16,
             0, 2, 12, 4, 0, 2, 0, 12, 2, 2, 0, 16,
-            0, 1, 0, 4, 1, 1, 0, 8, 2, 2, 0, 16, 4, 2, 0, 16, 6, 2, 13, 3, 6, 2, 0, 13, 8, 1, 0, 8, 9, 1, 0, 8, 10, 2, 0, 16, 12, 4, 0, 32, 16, 4, 0, 32,
+            0, 1, 0, 4, 1, 1, 0, 8, 2, 2, 0, 16, 4, 2, 0, 16, 6, 2, 13, 3, 6, 2, 0, 13,
+            8, 1, 0, 8, 9, 1, 0, 8, 10, 2, 0, 16, 12, 4, 0, 32, 16, 4, 0, 32,
             1, 1, 0, 8, 2, 2, 0, 16, 4, 1, 0, 8, 5, 1, 0, 8, 6, 2, 0, 16, 8, 8, 0, 64, 16, 8, 0, 64,
             0, 1, 0, 8, 1, 1, 0, 8,
             0, 1, 0, 8, 1, 1, 0, 8, 2, 1, 0, 8,
@@ -626,6 +627,10 @@ public final class PacketWall {
 
         int kindAt(int h) {
             return h >= 0 && h < count ? kinds[h] : NONE;
+        }
+
+        int placeAt(int h) {
+            return h >= 0 && h < count ? places[h] : NONE;
         }
 
         static int fieldCount(int kind) {
@@ -1017,9 +1022,9 @@ public final class PacketWall {
         private void keepHeaders(Headers headers, int piece) {
             keptLength = headers.endOf(piece);
             System.arraycopy(headers.source.bytes, 0, kept, 0, keptLength);
-            netAt = headers.places[headers.firstOf(NET)];
+            netAt = headers.placeAt(headers.firstOf(NET));
             if (kind == PART) {
-                nextAt = headers.places[piece - 1] + (headers.kindAt(piece - 1) == SIX ? 4 : 0);
+                nextAt = headers.placeAt(piece - 1) + (headers.kindAt(piece - 1) == SIX ? 4 : 0);
             }
         }
 
@@ -1198,8 +1203,8 @@ public final class PacketWall {
                 port[side] = (int) numberAt(tape, at + 2 + 2 * side, 2);
                 window[side] = (int) numberAt(tape, at + 6 + 2 * side, 2);
                 address[side] = numberAt(tape, at + 10 + 8 * side, 8);
-                last[side] = (int) numberAt(tape, at + 26 + 4 * side, 4);
                 hasLast[side] = (flags & 32 << side) != 0;
+                last[side] = hasLast[side] ? (int) numberAt(tape, at + 26 + 4 * side, 4) : 0;
                 packets[side] = side == 0 ? numberAt(tape, at + 38, 4) : 0;
                 bytes[side] = side == 0 ? numberAt(tape, at + 42, 4) : 0;
             }
@@ -1393,8 +1398,8 @@ public final class PacketWall {
             Flow flow = all[f];
             int side = flow.sideOf(ends);
             int[] bytes = headers.source.bytes;
-            int addressAt = headers.places[net] + (side == 0 ? 12 : 16);
-            int portAt = headers.places[inner] + (side == 0 ? 0 : 2);
+            int addressAt = headers.placeAt(net) + (side == 0 ? 12 : 16);
+            int portAt = headers.placeAt(inner) + (side == 0 ? 0 : 2);
             putNumber(bytes, addressAt, 4, side == 0 ? flow.changedAddress : flow.address[0]);
             putNumber(bytes, portAt, 2, side == 0 ? flow.changedPort : flow.port[0]);
             headers.mend(inner);
@@ -1955,7 +1960,7 @@ public final class PacketWall {
             }
         }
 
-        /** Turns the names of jump and try into chains, if the text had no fault. */
+        /** Names become chains only now, because a deed may name a chain that is told behind it. */
         void resolveJumps() {
             for (int i = 0; i < program.size && fault == 0; i++) {
                 int op = program.opAt(i);

@@ -1,0 +1,190 @@
+import java.util.Arrays;
+
+/** What the tests share: a wall with helpers to fill its tape, packets of the twelve kinds, and a count of wrong answers. */
+final class Wall {
+    static final int SYN = 2, FIN = 1, RST = 4, ACK = 16;
+
+    private static int wrong;
+
+    final PacketWall x = new PacketWall();
+
+    static void due(String what, long got, long want) {
+        if (got != want) {
+            wrong++;
+            System.out.println(what + " answered " + got + ", due is " + want);
+        }
+    }
+
+    static void finish() {
+        if (wrong != 0) {
+            System.out.println(wrong + " answers are not as due");
+            System.exit(1);
+        }
+    }
+
+    // ---- the tape
+
+    /** The tape becomes these bytes. */
+    Wall tape(int... bytes) {
+        x.end(0);
+        int[] padded = Arrays.copyOf(bytes, (bytes.length + 19) / 20 * 20);
+        for (int i = 0; i < padded.length; i += 20) {
+            x.feed(word(padded, i), word(padded, i + 4), word(padded, i + 8), word(padded, i + 12), word(padded, i + 16));
+        }
+        x.end(bytes.length);
+        return this;
+    }
+
+    Wall packet(int p, int... bytes) {
+        tape(bytes);
+        due("packet of " + bytes.length, x.packet(p), bytes.length);
+        return this;
+    }
+
+    int rules(String text) {
+        tape(text.chars().toArray());
+        return x.rules();
+    }
+
+    /** Rules that must be taken, then a verdict of packet 0. */
+    int judge(String text) {
+        due("rules " + text, Math.min(rules(text), 1), 1);
+        return x.verdict(0);
+    }
+
+    int[] wholeTape() {
+        int[] bytes = new int[x.told(7)];
+        for (int i = 0; i < bytes.length; i++) {
+            bytes[i] = x.tape(i);
+        }
+        return bytes;
+    }
+
+    int[] wholePacket(int p) {
+        int[] bytes = new int[x.at(p, -1)];
+        for (int i = 0; i < bytes.length; i++) {
+            bytes[i] = x.at(p, i);
+        }
+        return bytes;
+    }
+
+    private static int word(int[] bytes, int at) {
+        return bytes[at] << 24 | bytes[at + 1] << 16 | bytes[at + 2] << 8 | bytes[at + 3];
+    }
+
+    // ---- bytes
+
+    static int[] join(int[]... parts) {
+        return Arrays.stream(parts).flatMapToInt(Arrays::stream).toArray();
+    }
+
+    static int[] b(int... bytes) {
+        return bytes;
+    }
+
+    static int[] number(long value, int bytes) {
+        int[] made = new int[bytes];
+        for (int i = 0; i < bytes; i++) {
+            made[bytes - 1 - i] = (int) (value >>> (8 * i)) & 255;
+        }
+        return made;
+    }
+
+    static int[] two(long value) {
+        return number(value, 2);
+    }
+
+    /** n bytes that count up from one. */
+    static int[] run(int n) {
+        int[] made = new int[n];
+        for (int i = 0; i < n; i++) {
+            made[i] = (i + 1) & 255;
+        }
+        return made;
+    }
+
+    static int[] with(int[] bytes, int at, int value) {
+        int[] made = bytes.clone();
+        made[at] = value;
+        return made;
+    }
+
+    static int sumOf(int[] bytes) {
+        long added = 0;
+        for (int i = 0; i < bytes.length; i++) {
+            added += i % 2 == 0 ? bytes[i] << 8 : bytes[i];
+        }
+        while (added >> 16 != 0) {
+            added = (added & 65535) + (added >> 16);
+        }
+        return (int) ~added & 65535;
+    }
+
+    // ---- headers
+
+    static int[] link(int kind, int[] body) {
+        return join(b(1, 2), two(kind), body);
+    }
+
+    static int[] tag(int rank, int id, int kind, int[] body) {
+        return join(two(rank << 12 | id), two(kind), body);
+    }
+
+    static int[] four(int next, long from, long to, int[] body) {
+        return fourPiece(next, 7, 0, 0, from, to, body);
+    }
+
+    static int[] fourPiece(int next, int number, int flags, int offset, long from, long to, int[] body) {
+        return join(b(0x45, 3), two(20 + body.length), two(number), two(flags << 13 | offset), b(64, next), two(0),
+                number(from, 4), number(to, 4), body);
+    }
+
+    static int[] six(int next, long from, long to, int[] body) {
+        return join(b(0x60, 3), two(body.length), b(next, 64), two(5), number(from, 8), number(to, 8), body);
+    }
+
+    static int[] hops(int next, int n, int[] body) {
+        return join(b(next, n), run(8 * n + 6), body);
+    }
+
+    static int[] route(int next, int n, int left, int[] body) {
+        return join(b(next, n, left), run(8 * n + 5), body);
+    }
+
+    static int[] part(int next, int offset, int more, long number, int[] body) {
+        return join(b(next, 0), two(offset << 3 | more), number(number, 4), body);
+    }
+
+    static int[] control(int type, long rest, int[] body) {
+        return join(b(type, 0), two(0), number(rest, 4), body);
+    }
+
+    static int[] stream(int from, int to, long sequence, int flags, int window, int[] body) {
+        return join(two(from), two(to), number(sequence, 4), number(0, 4), b(0x50, flags), two(window), two(0), two(0), body);
+    }
+
+    static int[] datagram(int from, int to, int[] body) {
+        return join(two(from), two(to), two(8 + body.length), two(0), body);
+    }
+
+    static int[] tunnel(int flags, int kind, int[] body) {
+        return join(two(flags), two(kind), body);
+    }
+
+    /** A stream's packet from 10 to 11, or back, with ports 1000 and 80. */
+    static int[] streamPacket(int side, long sequence, int flags, int window, int data) {
+        int[] body = side == 0 ? stream(1000, 80, sequence, flags, window, run(data)) : stream(80, 1000, sequence, flags, window, run(data));
+        return link(4, side == 0 ? four(6, 10, 11, body) : four(6, 11, 10, body));
+    }
+
+    static int[] datagramPacket(long from, int fromPort, long to, int toPort) {
+        return link(4, four(17, from, to, datagram(fromPort, toPort, b(9))));
+    }
+
+    private Wall() {
+    }
+
+    static Wall fresh() {
+        return new Wall();
+    }
+}
