@@ -1920,7 +1920,10 @@ public final class PacketWall {
             int kind = word - Program.FIRST_KIND;
             countNode();
             advance();
-            expect('.');
+            if (!isSign('.')) {
+                refuse();
+            }
+            advance();
             if (token != WORD) {
                 refuse();
                 return;
@@ -2296,22 +2299,23 @@ public final class PacketWall {
             }
         }
 
+        /** Only notes the failure: judge() unwinds, when the operation that met it has returned. */
         private void fail(int number) {
-            failWith(number, 0);
-        }
-
-        private void failWith(int number, int own) {
-            boolean counted = failures < MOST_FAILURES;
-            failures += counted ? 1 : 0;
-            report[R_FAILURE] = counted ? number : SPENT;
-            report[R_OWN] = counted ? own : 0;
-            report[R_CHAIN] = chainNow();
             failing = true;
+            report[R_FAILURE] = number;
+            report[R_OWN] = 0;
         }
 
         private void unwind() {
             failing = false;
             top = 0;
+            report[R_CHAIN] = chainNow();
+            if (failures < MOST_FAILURES) {
+                failures++;
+            } else {
+                report[R_FAILURE] = SPENT;
+                report[R_OWN] = 0;
+            }
             if (inBehind) {
                 memory.becomeLike(frames[depth - 1].kept);
                 outcome = FAILED;
@@ -2570,7 +2574,6 @@ public final class PacketWall {
         // ---- deeds: the stack holds their exps alone
 
         private void doDeed(int op) {
-            int exps = top;
             top = 0;
             switch (op) {
                 case Program.MARK: setLabel(); return;
@@ -2581,7 +2584,9 @@ public final class PacketWall {
                 case Program.COPY: copyItems(); return;
                 case Program.FRESH: makeFresh(); return;
                 case Program.LIST: makeList(); return;
-                default: failWith(OWN, exps > 0 ? (int) stack[0] : 0);
+                default:
+                    fail(OWN);
+                    report[R_OWN] = (int) stack[0];
             }
         }
 
