@@ -559,24 +559,23 @@ public final class PacketWall {
     private static final class Headers {
         static final int MOST = 12, MOST_FIELDS = 11;
         static final int CUT = 1, NOTHING = 2, WRONG = 3, SIZE = 4, TOLD = 5, DEEP = 6;
-        static final int FOUR_NUMBER = 3, FOUR_FLAGS = 4, FOUR_OFFSET = 5, FOUR_NEXT = 7, FOUR_FROM = 9, FOUR_TO = 10;
-        static final int SIX_FROM = 5, SIX_TO = 6;
+        static final int FOUR_NUMBER = 3, FOUR_FLAGS = 4, FOUR_OFFSET = 5, FOUR_NEXT = 7, FOUR_FROM = 9, SIX_FROM = 5;
         static final int PART_NEXT = 0, PART_OFFSET = 1, PART_MORE = 2, PART_NUMBER = 3;
 
         /** Of each field: the byte where it begins, how many bytes, how far to shift, how many bits. */
         static final int[] FORMS = {
-            0, 1, 0, 8, 1, 1, 0, 8, 2, 2, 0, 16,
-            0, 2, 12, 4, 0, 2, 0, 12, 2, 2, 0, 16,
-            0, 1, 0, 4, 1, 1, 0, 8, 2, 2, 0, 16, 4, 2, 0, 16, 6, 2, 13, 3, 6, 2, 0, 13,
+            0, 1, 0, 8, 1, 1, 0, 8, 2, 2, 0, 16, // LINK
+            0, 2, 12, 4, 0, 2, 0, 12, 2, 2, 0, 16, // TAG
+            0, 1, 0, 4, 1, 1, 0, 8, 2, 2, 0, 16, 4, 2, 0, 16, 6, 2, 13, 3, 6, 2, 0, 13, // FOUR
             8, 1, 0, 8, 9, 1, 0, 8, 10, 2, 0, 16, 12, 4, 0, 32, 16, 4, 0, 32,
-            1, 1, 0, 8, 2, 2, 0, 16, 4, 1, 0, 8, 5, 1, 0, 8, 6, 2, 0, 16, 8, 8, 0, 64, 16, 8, 0, 64,
-            0, 1, 0, 8, 1, 1, 0, 8,
-            0, 1, 0, 8, 1, 1, 0, 8, 2, 1, 0, 8,
-            0, 1, 0, 8, 2, 2, 3, 13, 2, 2, 0, 1, 4, 4, 0, 32,
-            0, 1, 0, 8, 1, 1, 0, 8, 2, 2, 0, 16, 4, 4, 0, 32,
-            0, 2, 0, 16, 2, 2, 0, 16, 4, 4, 0, 32, 8, 4, 0, 32, 12, 1, 4, 4, 13, 1, 0, 8, 14, 2, 0, 16, 16, 2, 0, 16,
-            0, 2, 0, 16, 2, 2, 0, 16, 4, 2, 0, 16, 6, 2, 0, 16,
-            0, 2, 0, 16, 2, 2, 0, 16
+            1, 1, 0, 8, 2, 2, 0, 16, 4, 1, 0, 8, 5, 1, 0, 8, 6, 2, 0, 16, 8, 8, 0, 64, 16, 8, 0, 64, // SIX
+            0, 1, 0, 8, 1, 1, 0, 8, // HOPS
+            0, 1, 0, 8, 1, 1, 0, 8, 2, 1, 0, 8, // ROUTE
+            0, 1, 0, 8, 2, 2, 3, 13, 2, 2, 0, 1, 4, 4, 0, 32, // PART
+            0, 1, 0, 8, 1, 1, 0, 8, 2, 2, 0, 16, 4, 4, 0, 32, // CONTROL
+            0, 2, 0, 16, 2, 2, 0, 16, 4, 4, 0, 32, 8, 4, 0, 32, 12, 1, 4, 4, 13, 1, 0, 8, 14, 2, 0, 16, 16, 2, 0, 16, // STREAM
+            0, 2, 0, 16, 2, 2, 0, 16, 4, 2, 0, 16, 6, 2, 0, 16, // DATAGRAM
+            0, 2, 0, 16, 2, 2, 0, 16 // TUNNEL
         };
         /** The number of each kind's first field in FORMS, and how many fields it has (REST's one field is no bytes). */
         static final int[] FIRST_FORM = {0, 3, 6, 17, 24, 26, 29, 33, 37, 45, 49, 51};
@@ -1653,7 +1652,9 @@ public final class PacketWall {
 
     /** Rules as a row of operations: deeds and exps by the numbers of their words, signs by their characters. */
     private static final class Program {
-        static final int MOST_CHAINS = 16, MOST_NODES = 300, MOST_CODE = 1000;
+        static final int MOST_CHAINS = 16, MOST_NODES = 300;
+        /** No text has more: each - ! of one takes a byte of the tape, a node at most three operations. */
+        static final int MOST_CODE = MOST_TAPE + 3 * MOST_NODES;
         static final int CHAIN = 0, BEHIND = 1, ELSE = 2, IF = 3, TAKE = 4, DROP = 5, ANSWER = 6, RETURN = 7, JUMP = 8, TRY = 9;
         static final int MARK = 10, COUNT = 11, LOG = 12, LEARN = 13, PUT = 14, COPY = 15, FRESH = 16, LIST = 17, FAIL = 18;
         static final int TIME = 19, SIZE = 20, FLOW = 21, FLOW_STATE = 22, FAILURE = 23;
@@ -1894,7 +1895,6 @@ public final class PacketWall {
             }
             if (isSign('-') || isSign('!')) {
                 int op = sign == '-' ? Program.MINUS : Program.SIGNED + '!';
-                countNode();
                 open(sign, within);
                 one(within + 1);
                 program.emit(op, 0);
