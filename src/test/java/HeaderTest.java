@@ -85,14 +85,18 @@ public final class HeaderTest {
         fields("TAG", Wall.link(9, Wall.tag(15, 4094, 77, Wall.b())), 1, 4, 15, 4094, 77);
         fields("FOUR", Wall.link(4, four), 1, 4, 6, 200, 27, 65535, 5, 4097, 250, 99, 40000, 0xfffffffeL, 3);
         fields("REST", Wall.link(4, four), 2, 28, 3);
-        fields("SIX", Wall.link(6, Wall.six(99, -2, 1L << 62, Wall.b())), 1, 4, 3, 0, 99, 64, 5, -2, 1L << 62);
+        int[] six = Wall.join(Wall.b(0x6f, 254), Wall.two(0), Wall.b(253, 252), Wall.two(65007), Wall.number(-2, 8), Wall.number(1L << 62, 8));
+        fields("SIX", Wall.link(6, six), 1, 4, 254, 0, 253, 252, 65007, -2, 1L << 62);
         fields("HOPS", Wall.link(6, Wall.six(0, 1, 2, Wall.hops(99, 2, Wall.b()))), 2, 28, 99, 2);
         fields("ROUTE", Wall.link(6, Wall.six(43, 1, 2, Wall.route(99, 1, 200, Wall.b()))), 2, 28, 99, 1, 200);
         fields("PART", Wall.link(6, Wall.six(44, 1, 2, Wall.part(99, 8191, 7, 0xffffffffL, Wall.b()))), 2, 28, 99, 8191, 1, 0xffffffffL);
-        fields("CONTROL", Wall.link(4, Wall.four(1, 1, 2, Wall.control(8, 0x80000001L, Wall.b()))), 2, 24, 8, 0, 0, 0x80000001L);
-        fields("STREAM", Wall.link(4, Wall.four(6, 1, 2, Wall.stream(65535, 80, 0xffffffffL, 255, 4000, Wall.b()))), 2, 24,
-                65535, 80, 0xffffffffL, 0, 5, 255, 4000, 0);
-        fields("DATAGRAM", Wall.link(4, Wall.four(17, 1, 2, Wall.datagram(53, 54, Wall.b(1)))), 2, 24, 53, 54, 9, 0);
+        int[] control = Wall.join(Wall.b(254, 253), Wall.two(65000), Wall.number(0x80000001L, 4));
+        fields("CONTROL", Wall.link(4, Wall.four(1, 1, 2, control)), 2, 24, 254, 253, 65000, 0x80000001L);
+        int[] stream = Wall.join(Wall.two(65535), Wall.two(40000), Wall.number(0xfffffffeL, 4), Wall.number(0x80000003L, 4), Wall.b(0x5f, 254),
+                Wall.two(65001), Wall.two(65002), Wall.two(65003));
+        fields("STREAM", Wall.link(4, Wall.four(6, 1, 2, stream)), 2, 24, 65535, 40000, 0xfffffffeL, 0x80000003L, 5, 254, 65001, 65002);
+        int[] datagram = Wall.join(Wall.two(65004), Wall.two(65005), Wall.two(9), Wall.two(65006), Wall.b(1));
+        fields("DATAGRAM", Wall.link(4, Wall.four(17, 1, 2, datagram)), 2, 24, 65004, 65005, 9, 65006);
         fields("TUNNEL", Wall.link(4, Wall.four(47, 1, 2, Wall.tunnel(65534, 5, Wall.b()))), 2, 24, 65534, 5);
         Wall w = wall(Wall.link(5, Wall.b()));
         Wall.due("place of no header", w.x.place(0, 1), NONE);

@@ -157,12 +157,16 @@ public final class TableTest {
         fault("state 2 of a datagram", changed(good, 0, 17, 2), 0);
         fault("state 1 of a control", changed(good, 0, 1, 1), 0);
         fault("an address of FOUR", changed(good, 13, 1), 0);
+        fault("the other address", changed(good, 21, 1), 0);
         fault("the other address, negative", changed(good, 18, 128), 0);
         fault("lives 0", changed(good, 34, 0, 0, 0, 0), 0);
         fault("lives 201", changed(good, 34, 0, 0, 0, 201), 0);
         fault("lives very long", changed(good, 34, 128, 0, 0, 1), 0);
-        Wall w = Wall.fresh();
-        for (int[] row : new int[][] {changed(good, 0, 17, 1), changed(good, 0, 1, 0), changed(good, 1, 10), changed(good, 34, 0, 0, 0, 200), changed(good, 1, 3 + 16, 0, 1)}) {
+        Wall w = Wall.fresh().tape(Wall.join(good, changed(good, 3, 0)));
+        w.x.end(95);
+        Wall.due("a row whose last byte was cut off", w.x.restore(), -11);
+        for (int[] row : new int[][] {changed(good, 0, 17, 1), changed(good, 0, 1, 0), changed(good, 1, 10), changed(good, 1, 1), changed(good, 0, 17, 0),
+            changed(good, 34, 0, 0, 0, 200), changed(good, 34, 0, 0, 0, 1), changed(good, 14, 255, 255, 255, 255), changed(good, 1, 3 + 16, 0, 1)}) {
             Wall.due("a row that is right", w.tape(row).x.restore(), 1);
         }
         w.tape(changed(good, 38, 255, 255, 255, 255, 255, 255, 255, 254));

@@ -93,7 +93,8 @@ public final class TapeTest {
         Wall.due("at of nothing", w.x.at(3, 0), UNKNOWN);
         Wall.due("at of packet 24", w.x.at(24, 0), UNKNOWN);
         Wall.due("set", w.x.set(2, 1, 9), 255);
-        Wall.due("set again", w.x.set(2, 1, 255), 9);
+        Wall.due("set 0", w.x.set(2, 1, 0), 9);
+        Wall.due("set again", w.x.set(2, 1, 255), 0);
         Wall.due("set 256", w.x.set(2, 1, 256), OUTSIDE);
         Wall.due("set -1", w.x.set(2, 1, -1), OUTSIDE);
         Wall.due("set behind", w.x.set(2, 3, 0), OUTSIDE);

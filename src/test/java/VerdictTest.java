@@ -364,7 +364,7 @@ public final class VerdictTest {
         for (int i = 0; i < 3; i++) {
             Wall.due("copied " + i, w.x.rowAt(1, i), row1[i]);
         }
-        w.judge("chain a{copy 0,2,0,0,4;copy 0,6,1,3,0;take;}");
+        Wall.due("none at the ends", w.judge("chain a{copy 0,2,0,0,4;copy 0,6,1,3,0;copy 0,5,1,2,1;take;}"), 0);
         Wall.due("over itself, downwards", w.x.rowAt(0, 0), 2);
         Wall.due("the end of it", w.x.rowAt(0, 3), 0);
         fails("copy 8,0,0,0,0;", INDEX);
@@ -448,6 +448,9 @@ public final class VerdictTest {
         Wall.due("none yet", w.x.logged(0), 0);
         Wall.due("in another chain", w.judge("chain a{jump b;log failure;take;}chain b{try c;}chain c{log row(0,0);}"), 0);
         Wall.due("told all the same", w.x.logged(0), NOTHING);
+        Wall.due("a try that takes none", w.judge("chain a{try b;try c;log failure;take;}chain b{fail 1;}chain c{log failure;}"), 0);
+        Wall.due("the latest took none", w.x.logged(0), 0);
+        Wall.due("nor has it taken any yet", w.x.logged(1), 0);
         Wall.due("SPENT is not taken", w.judge("chain a{try b;take;}chain b{fresh 0,0,41;}"), -10 - SPENT);
         Wall.due("through a jump", w.judge("chain a{try b;answer;}chain b{jump c;take;}chain c{fail 1;}"), 2);
         Wall.due("a verdict within", w.judge("chain a{try b;answer;}chain b{take;}"), 0);
