@@ -204,7 +204,7 @@ public final class HeaderTest {
     }
 
     private static void sums() {
-        int[] body = Wall.datagram(53, 54, Wall.run(3));
+        int[] body = Wall.datagram(0xfe35, 0xfd36, Wall.run(3));
         int[] packet = Wall.link(4, Wall.four(17, 0xc0000201L, 9, body));
         Wall w = wall(packet);
         int[] four = Wall.join(Wall.b(0x45, 3), Wall.two(31), Wall.two(7), Wall.two(0), Wall.b(64, 17), Wall.two(0), Wall.number(0xc0000201L, 4), Wall.number(9, 4));

@@ -61,7 +61,7 @@ public final class PieceTest {
 
     private static void fourTogether() {
         Wall w = Wall.fresh();
-        int[] first = Wall.link(9, Wall.tag(1, 2, 4, Wall.with(Wall.with(Wall.join(Wall.fourPiece(99, 3, 3, 0, 10, 11, Wall.join(Wall.b(8, 8, 8, 8), Wall.run(8)))), 0, 0x46), 11, 77)));
+        int[] first = Wall.link(9, Wall.tag(1, 2, 4, Wall.with(Wall.with(Wall.join(Wall.fourPiece(99, 3, 3, 0, 10, 11, Wall.join(Wall.b(8, 8, 8, 8), Wall.run(8)))), 0, 0x46), 10, 77)));
         Wall.due("the last first", gather(w, piece(3, 0, 1, Wall.b(50, 51, 52))), NONE);
         gathered("the last", w, 3, 0, 0, 11, 11);
         Wall.due("it is whole", gather(w, first), 1);
@@ -150,6 +150,10 @@ public final class PieceTest {
         Wall.due("six names", w.x.told(2), 6);
         gather(w, Wall.link(9, Wall.tag(0, 0, 6, Wall.six(43, 10, 11, Wall.route(44, 0, 0, Wall.part(99, 1, 1, 5, Wall.run(8)))))));
         Wall.due("one that is known", w.x.told(2), 6);
+        gather(w, Wall.link(6, Wall.six(44, 10, 11, Wall.part(99, 1, 1, 6, Wall.run(8)))));
+        Wall.due("another number of PART", w.x.told(2), 7);
+        gather(w, Wall.link(6, Wall.six(44, 10, 11, Wall.part(98, 1, 1, 6, Wall.run(8)))));
+        Wall.due("another next of PART", w.x.told(2), 8);
     }
 
     private static void roomForGatherings() {

@@ -44,6 +44,7 @@ public final class TapeTest {
         Wall.due("tape behind its end", x.tape(20), NONE);
         Wall.due("tape below 0", x.tape(-1), NONE);
         Wall.due("end above", x.end(21), OUTSIDE);
+        Wall.due("end where it ends", x.end(20), 20);
         Wall.due("end below 0", x.end(-1), OUTSIDE);
         Wall.due("end", x.end(3), 3);
         Wall.due("tape cut off", x.tape(3), NONE);

@@ -290,6 +290,12 @@ public final class VerdictTest {
         w.x.tick(1);
         Wall.due("not from when it was spent", w.x.has(1), 2);
         Wall.due("none every tick", w.x.has(2), 0);
+        w.x.bucket(0, 9, 1);
+        w.x.bucket(3, 9, 2);
+        w.judge("chain a{log spend(0)+spend(0)+spend(0)+spend(3)+spend(3)+spend(3);}");
+        w.x.tick(2);
+        Wall.due("the first", w.x.has(0), 8);
+        Wall.due("the last", w.x.has(3), 7);
         fails("log spend(4);", INDEX);
     }
 
@@ -501,6 +507,7 @@ public final class VerdictTest {
         Wall.due("its number", w.x.why(1), 5);
         Wall.due("behind that fails", w.judge("chain a{count 3,1;take;}behind{count 3,10;log 1/0;}"), -10 - ZERO);
         Wall.due("all is given back", w.x.counter(3), 0);
+        Wall.due("but not what was there ahead of it", w.x.counter(0), 11);
         Wall.due("in place of a failure", w.judge("chain a{fail 5;}behind{log row(9,9);}"), -10 - INDEX);
         Wall.due("its number is gone", w.x.why(1), 0);
         Wall.due("both were failures", w.x.told(6), 4);
@@ -576,8 +583,7 @@ public final class VerdictTest {
         for (int n = 0; n < 50; n++) {
             Wall.due("200 rows, " + n, w.x.verdict(0), 0);
         }
-        Wall.due("the 10001st", w.x.verdict(0), -10 - SPENT);
-        Wall.due("a fresh one", w.judge("chain a{fresh 0,0,1;}"), -10 - SPENT);
+        Wall.due("the 10001st", w.judge("chain a{fresh 0,0,1;}"), -10 - SPENT);
         Wall.due("a listed one", w.judge("chain a{list 0;}"), -10 - SPENT);
         Wall.due("below 0", w.judge("chain a{fresh 0,0,0-1;}"), -10 - SIZE);
     }
