@@ -46,6 +46,7 @@ public final class FlowTest {
         Wall.due("packet 24", w.x.track(24), UNKNOWN);
         Wall.due("a finding", track(w, Wall.b(1)), STATE);
         Wall.due("no net", track(w, Wall.link(5, Wall.b(1))), STATE);
+        Wall.due("a finding behind the ends", track(w, Wall.link(4, Wall.four(1, 1, 2, Wall.control(3, 0, Wall.b(0x45))))), STATE);
         Wall.due("REST behind the net", track(w, Wall.link(4, Wall.four(99, 1, 2, Wall.b(1)))), STATE);
         Wall.due("FOUR behind FOUR", track(w, Wall.link(4, Wall.four(4, 1, 2, Wall.four(17, 1, 2, Wall.datagram(1, 2, Wall.b()))))), STATE);
         Wall.due("a piece", track(w, Wall.link(4, Wall.fourPiece(17, 1, 1, 0, 1, 2, Wall.datagram(1, 2, Wall.b())))), STATE);
@@ -383,6 +384,9 @@ public final class FlowTest {
         Wall.due("its port is side 0's", w.x.field(0, 2, 1), 1);
         Wall.due("its from stays", w.x.field(0, 1, 9), 11);
         Wall.due("sums are right again", w.x.repair(0), 0);
+        int[] quoted = Wall.four(17, 10, 11, Wall.datagram(1, 2, Wall.b()));
+        Wall.due("no turn for what is related", w.packet(0, quoting(3, quoted)).x.turn(0), STATE);
+        Wall.due("it is related all the same", w.x.track(0), 0);
         Wall.due("side 1 to side 0's own ends", track(w, Wall.datagramPacket(11, 2, 10, 1)), 1);
         Wall.due("the flow's own ends stay", w.x.flowed(0, 0), 10);
     }

@@ -181,6 +181,10 @@ public final class PieceTest {
         w.x.drop(20);
         w.x.drop(9);
         Wall.due("looked at anew", gather(w, piece(1, 0, 1, Wall.run(2))), 9);
+        gather(w, piece(2, 1, 0, Wall.run(8)));
+        w.packet(20, 1);
+        w.x.drop(23);
+        Wall.due("the last one is free", gather(w, piece(2, 0, 1, Wall.run(2))), 23);
         w = Wall.fresh();
         int[] wide = Wall.join(Wall.b(0x4f, 3), Wall.two(68), Wall.two(1), Wall.two(1 << 13), Wall.b(64, 99), Wall.two(0), Wall.number(10, 4), Wall.number(11, 4), new int[40], Wall.run(8));
         gather(w, Wall.link(4, wide));
@@ -198,8 +202,9 @@ public final class PieceTest {
         Wall w = Wall.fresh();
         gather(w, piece(1, 1, 0, Wall.run(8)));
         w.x.tick(29);
-        gather(w, piece(1, 1, 1, Wall.run(8)));
         Wall.due("29 ticks", w.x.told(2), 1);
+        gather(w, piece(1, 1, 0, Wall.run(16)));
+        gathered("still there", w, 8, 8, 0, 64, NONE);
         w.x.tick(1);
         Wall.due("30 ticks, whatever came", w.x.told(2), 0);
         Wall.due("it begins anew", gather(w, piece(1, 0, 1, Wall.run(8))), NONE);

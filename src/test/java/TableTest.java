@@ -66,6 +66,10 @@ public final class TableTest {
 
     private static void sixRow() {
         Wall w = Wall.fresh();
+        w.packet(0, Wall.streamPacket(0, 100, Wall.SYN, 4000, 0)).x.track(0);
+        w.x.export();
+        Wall.due("one side's LAST", w.x.tape(1), 1 + 32);
+        w.x.close(0);
         w.packet(0, Wall.link(6, Wall.six(17, -1, 1L << 40, Wall.datagram(1, 2, Wall.b())))).x.track(0);
         w.x.export();
         int[] row = row(17, 16, Wall.join(Wall.two(1), Wall.two(2), Wall.two(0), Wall.two(0), Wall.number(-1, 8), Wall.number(1L << 40, 8),

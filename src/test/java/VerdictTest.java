@@ -93,6 +93,10 @@ public final class VerdictTest {
         works("!!7", 1);
         works("2=2", 1);
         works("0-1<0", 1);
+        works("1<1", 0);
+        works("1>1", 0);
+        works("2>1", 1);
+        works("1=2", 0);
         works("1>2", 0);
         works("5&7", 1);
         works("5&0", 0);
@@ -244,8 +248,9 @@ public final class VerdictTest {
         }
         w.judge(text + "learn 0,0-1;}");
         Wall.due("how many", w.x.learned(3, NONE), 16);
-        Wall.due("the eldest went", w.x.learned(3, 0), 1);
-        Wall.due("the youngest", w.x.learned(3, 15), 16);
+        for (int i = 0; i < 16; i++) {
+            Wall.due("the eldest went, " + i, w.x.learned(3, i), i + 1);
+        }
         Wall.due("none such", w.x.learned(3, 16), NONE);
         Wall.due("none such below", w.x.learned(3, -2), NONE);
         Wall.due("set 4", w.x.learned(4, NONE), NONE);
@@ -534,6 +539,9 @@ public final class VerdictTest {
         Wall.due("steps", w.x.why(2), 9);
         w.judge("chain a{drop;}");
         Wall.due("drop", w.x.why(10), 1);
+        w.judge("chain a{jump b;}chain b{jump c;}chain c{answer;}");
+        Wall.due("a jump of the second", w.x.why(11), 103);
+        Wall.due("an answer of the third", w.x.why(12), 202);
         w.judge("chain a{take;}");
         Wall.due("take", w.x.why(10), 0);
         Wall.due("one", w.x.why(4), 1);
