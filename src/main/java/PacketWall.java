@@ -1653,8 +1653,8 @@ public final class PacketWall {
     /** Rules as a row of operations: deeds and exps by the numbers of their words, signs by their characters. */
     private static final class Program {
         static final int MOST_CHAINS = 16, MOST_NODES = 300;
-        /** No text has more: each - ! of one takes a byte of the tape, a node at most three operations. */
-        static final int MOST_CODE = MOST_TAPE + 3 * MOST_NODES;
+        /** No text has more: a node becomes at most three operations, the ends of a chain are two. */
+        static final int MOST_CODE = 3 * MOST_NODES + 2 * MOST_CHAINS;
         static final int CHAIN = 0, BEHIND = 1, ELSE = 2, IF = 3, TAKE = 4, DROP = 5, ANSWER = 6, RETURN = 7, JUMP = 8, TRY = 9;
         static final int MARK = 10, COUNT = 11, LOG = 12, LEARN = 13, PUT = 14, COPY = 15, FRESH = 16, LIST = 17, FAIL = 18;
         static final int TIME = 19, SIZE = 20, FLOW = 21, FLOW_STATE = 22, FAILURE = 23;
@@ -1895,6 +1895,7 @@ public final class PacketWall {
             }
             if (isSign('-') || isSign('!')) {
                 int op = sign == '-' ? Program.MINUS : Program.SIGNED + '!';
+                countNode();
                 open(sign, within);
                 one(within + 1);
                 program.emit(op, 0);
@@ -2336,10 +2337,7 @@ public final class PacketWall {
         private void goOn(int op, int arg) {
             switch (op) {
                 case Program.STEP:
-                    report[R_STEPS]++;
-                    if (report[R_STEPS] > MOST_STEPS) {
-                        fail(SPENT);
-                    }
+                    takeStep();
                     return;
                 case Program.IF:
                     pc = pop() == 0 ? arg : pc;
@@ -2364,6 +2362,15 @@ public final class PacketWall {
                 default:
                     note(100 * chainNow() + op - Program.TAKE);
                     leaveBody(op - Program.TAKE);
+            }
+        }
+
+        /** The deed that would be one step too many is none: it fails instead. */
+        private void takeStep() {
+            if (report[R_STEPS] >= MOST_STEPS) {
+                fail(SPENT);
+            } else {
+                report[R_STEPS]++;
             }
         }
 

@@ -45,7 +45,7 @@ public final class RuleTextTest {
         right("chain a{if 1{take;}else{if 2{}else{drop;}}}", 1, 6);
         right("chain a{log 1+2-3*4/5%6;}", 1, 12);
         right("chain a{log 1|2&3=4;log 1<2;log 1>2;}", 1, 8 + 8);
-        right("chain a{log ((1));log -1;log !1;log --!1;}", 1, 8);
+        right("chain a{log ((1));log -1;log !1;log --!1;}", 1, 2 + 3 + 3 + 5);
         right("chain a{log mark;log time;log size;log flow;log state;log failure;}", 1, 12);
         right("chain a{log has(rest);log byte(1);log spend(1);log long(1);log in(1,2);log row(1,2);log head(1,2,3);}", 1, 7 + 1 + 2 + 2 + 2 + 3 + 3 + 4);
         right("chain a{log net.mark+net.life+net.next+net.from+net.to+carried.sum;}", 1, 12);
@@ -134,11 +134,19 @@ public final class RuleTextTest {
         wrong("chain a{take;log 1" + "+1".repeat(148) + "+^1;}", 3);
         wrong("chain a{log 1" + "+1".repeat(149) + "^+1;}", 3);
         wrong("chain a{log 1" + "+1".repeat(149) + " ^1;}", 2);
-        wrong("chain a{take;log 1" + "+1".repeat(148) + "+-^1;}", 3);
+        wrong("chain a{take;log 1" + "+1".repeat(148) + "+^-1;}", 3);
+        wrong("chain a{take;log 1" + "+1".repeat(148) + "+^!1;}", 3);
+        right("chain a{log -1" + "+1".repeat(148) + ";take;}", 1, 300);
+        wrong("chain a{log !1" + "+1".repeat(148) + ";take;^drop;}", 3);
+        wrong("chain a{log -1" + "+1".repeat(148) + "+^1;}", 3);
+        right("chain a{log (1" + "+(1)".repeat(149) + ");}", 1, 300);
+        right("chain a{log 0" + "+-----------1".repeat(22) + ";log !---------1;}", 1, 300);
+        wrong("chain a{log 0" + "+-----------1".repeat(22) + ";log !---------1;^drop;}", 3);
+        wrong("chain a{log 0" + "+-----------1".repeat(22) + ";log !----------^1;}", 3);
         wrong("chain a{take;log 1" + "+1".repeat(148) + "+^9999999999;}", 3);
         right("chain a{log " + "(".repeat(11) + "1" + ")".repeat(11) + ";}", 1, 2);
         wrong("chain a{log " + "(".repeat(11) + "^(1" + ")".repeat(12) + ";}", 3);
-        right("chain a{log " + "-".repeat(11) + "1;}", 1, 2);
+        right("chain a{log " + "-".repeat(11) + "1;}", 1, 13);
         wrong("chain a{log " + "-!".repeat(5) + "!^-1;}", 3);
         right("chain a{log " + "byte(".repeat(11) + "1" + ")".repeat(11) + ";}", 1, 13);
         wrong("chain a{log " + "byte(".repeat(11) + "has^(four)" + ")".repeat(11) + ";}", 3);
@@ -146,7 +154,7 @@ public final class RuleTextTest {
         right("chain a{" + "if 1{".repeat(11) + "}".repeat(12), 1, 22);
         wrong("chain a{" + "if 1{".repeat(11) + "if 1 ^{" + "}".repeat(13), 3);
         wrong("chain a{" + "if 1{}else{".repeat(11) + "if 1 ^{}else{}" + "}".repeat(12), 3);
-        right("chain a{" + "if 1{".repeat(5) + "log " + "-(".repeat(3) + "1" + ")".repeat(3) + ";" + "}".repeat(6), 1, 10 + 2);
+        right("chain a{" + "if 1{".repeat(5) + "log " + "-(".repeat(3) + "1" + ")".repeat(3) + ";" + "}".repeat(6), 1, 10 + 5);
         wrong("chain a{" + "if 1{".repeat(6) + "log " + "-(".repeat(2) + "-^(1" + ")".repeat(3) + ";" + "}".repeat(7), 3);
         wrong("chain a{}behind{" + "if 1{".repeat(11) + "if 1 ^{" + "}".repeat(13), 3);
     }

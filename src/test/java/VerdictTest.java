@@ -82,7 +82,10 @@ public final class VerdictTest {
         works("4294967295*4294967295*4294967295", 4294967295L * 4294967295L * 4294967295L);
         works("(0-2147483648*4294967295-2147483648)/(0-1)", -9223372036854775808L);
         works("(0-2147483648*4294967295-2147483648)%(0-1)", 0);
-        works("0" + "+-----------1".repeat(121), -121);
+        works("0" + "+-----------1".repeat(22), -22);
+        works("0" + "+!-!-!-!-!-!1".repeat(22), 22);
+        works("-(" + "!1-".repeat(70) + "!-1)", 0);
+        works("0-" + "-1-".repeat(70) + "1", 69);
         fails("log 1/0;", ZERO);
         fails("log 1%(2-2);", ZERO);
     }
@@ -560,12 +563,23 @@ public final class VerdictTest {
         Wall.due("are told", w.x.why(2), 300);
         Wall.due("a 301st", w.judge("chain a{" + "jump b;".repeat(15) + "take;}" + b), -10 - SPENT);
         Wall.due("its chain", w.x.why(3), 0);
-        Wall.due("the 301st is told", w.x.why(2), 301);
+        Wall.due("the 301st is no step", w.x.why(2), 300);
         Wall.due("all is given back", w.x.counter(0), 19 * 14);
         Wall.due("a try does not take it", w.judge("chain a{" + "try b;".repeat(16) + "take;}" + b), -10 - SPENT);
         Wall.due("nor can a behind be done", w.judge("chain a{jump c;}behind{count 2,1;}chain c{" + "jump b;".repeat(16) + "}" + b), -10 - SPENT);
         Wall.due("but fails itself", w.x.why(3), 0);
         Wall.due("and counts nothing", w.x.counter(2), 0);
+        Wall.due("nor is it a step", w.x.why(2), 300);
+        int before = w.x.told(6);
+        Wall.due("behinds of three chains", w.judge("chain a{jump c;}behind{count 2,1;count 3,1;}chain c{jump d;}behind{if 1{log 1;}}"
+            + "chain d{" + "jump b;".repeat(16) + "}behind{log 1;}" + b), -10 - SPENT);
+        Wall.due("add no step", w.x.why(2), 300);
+        Wall.due("but fail each, as the deed did", w.x.told(6) - before, 4);
+        Wall.due("the last in the first chain", w.x.why(3), 0);
+        Wall.due("a deed with the 300th step is done", w.judge("chain a{" + "jump b;".repeat(14) + "jump c;}chain c{" + "count 1,1;".repeat(18)
+            + "count 4,7;}" + b), 1);
+        Wall.due("so many steps", w.x.why(2), 300);
+        Wall.due("it counts", w.x.counter(4), 7);
     }
 
     private static void depths() {
