@@ -8,7 +8,7 @@ import java.util.Random;
 
 /** No call ever throws, whatever its arguments and the state; calls answer alike on two objects, and make no objects. */
 public final class AnyCallTest {
-    private static final int RUNS = 300, CALLS = 512;
+    private static final int RUNS = 300, CALLS = 490;
     private static final int[] EDGES = {0, 1, 2, 3, 4, 7, 8, 10, 12, 23, 24, 39, 40, 44, 65535, -1, -2, 255, 256, 1000, 1001, Integer.MAX_VALUE, Integer.MIN_VALUE};
     private static final String[] TEXTS = {
         "chain a{try b;try c;list 1;copy 1,0,2,0,2;take;}behind{log 1/(time-3);}chain b{fresh 2,6,4;put 0,byte(7),size;jump a;}chain c{learn 1,mark;mark mark+1;count 9,1;}",

@@ -1,4 +1,6 @@
 import java.util.Arrays;
+import java.util.function.Consumer;
+import java.util.function.ToLongFunction;
 
 /** What the tests share: a wall with helpers to fill its tape, packets of the twelve kinds, and a count of wrong answers. */
 final class Wall {
@@ -22,10 +24,86 @@ final class Wall {
         }
     }
 
+    // ---- refused calls
+
+    /**
+     * A call that is refused behind some others: its answer, and that nothing changed, which is seen by a second
+     * wall that did not meet the call. Both are asked far fewer than the 512 calls that an object is for.
+     */
+    static void refused(String what, Consumer<Wall> before, ToLongFunction<PacketWall> call, long answer) {
+        Wall asked = fresh();
+        Wall left = fresh();
+        before.accept(asked);
+        before.accept(left);
+        due(what, call.applyAsLong(asked.x), answer);
+        sameView(what, asked, left);
+    }
+
+    static void sameView(String what, Wall one, Wall other) {
+        long[] got = one.view();
+        long[] want = other.view();
+        for (int i = 0; i < want.length; i++) {
+            due(what + ": nothing changes, view " + i, got[i], want[i]);
+        }
+    }
+
+    /** All that can be asked of a wall without changing it, but for what needs many calls: then a part of it. */
+    private long[] view() {
+        long[] seen = new long[400];
+        int n = 0;
+        for (int what = 0; what <= 8; what++) {
+            seen[n++] = x.told(what);
+        }
+        for (int i : new int[] {0, 1, 2, 399, 400, x.told(7) - 1, x.told(7)}) {
+            seen[n++] = x.tape(i);
+        }
+        for (int p = 0; p < 24; p++) {
+            seen[n++] = x.at(p, PacketWall.NONE);
+            seen[n++] = x.digest(p);
+        }
+        for (int p = 0; p < 3; p++) {
+            seen[n++] = x.mark(p);
+        }
+        for (int what = 0; what <= 4; what++) {
+            seen[n++] = x.finding(what);
+            seen[n++] = x.gathered(what);
+            seen[n++] = x.why(what);
+            seen[n++] = x.why(10 + what);
+            seen[n++] = x.logged(what);
+        }
+        seen[n++] = x.wrong();
+        for (int k = 0; k < 8; k++) {
+            seen[n++] = x.counter(k);
+            seen[n++] = x.rowAt(k, PacketWall.NONE);
+            seen[n++] = x.rowAt(k, 0);
+            seen[n++] = x.rowAt(k, 1);
+        }
+        for (int k = 0; k < 4; k++) {
+            seen[n++] = x.has(k);
+            seen[n++] = x.learned(k, PacketWall.NONE);
+            seen[n++] = x.learned(k, 0);
+        }
+        for (int f = 0; f < 24; f++) {
+            seen[n++] = x.flow(f, 4);
+        }
+        for (int f = 0; f < 2; f++) {
+            for (int what = 0; what <= 10; what++) {
+                seen[n++] = x.flow(f, what);
+            }
+            for (int what = 0; what <= 5; what++) {
+                seen[n++] = x.flowed(f, what);
+            }
+        }
+        return seen;
+    }
+
     // ---- the tape
 
     /** The tape becomes these bytes. */
     Wall tape(int... bytes) {
+        if (bytes.length > 1600) {
+            throw new IllegalArgumentException("no tape has " + bytes.length + " bytes");
+        }
         x.end(0);
         int[] padded = Arrays.copyOf(bytes, (bytes.length + 19) / 20 * 20);
         for (int i = 0; i < padded.length; i += 20) {
