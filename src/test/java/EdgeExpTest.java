@@ -772,6 +772,13 @@ public final class EdgeExpTest {
         Wall.due("the second is none: STORE", w.x.logged(0), STORE);
         Wall.due("the one ahead has gone", w.x.rowAt(1, 1), 9);
         Wall.due("that one has not", w.x.rowAt(1, 2), NONE);
+        w.judge("chain a{list 0;fresh 1,6,6;try b;log failure;try c;log failure;take;}chain b{copy 0,2,1,3,2;}chain c{copy 0,0,1,1,3;}");
+        Wall.due("to a place further on: STORE", w.x.logged(1), STORE);
+        Wall.due("the one ahead has gone", w.x.rowAt(1, 3), 9);
+        Wall.due("that one has not", w.x.rowAt(1, 4), NONE);
+        Wall.due("further on, the first is none: STORE", w.x.logged(0), STORE);
+        Wall.due("none has gone", w.x.rowAt(1, 1) + w.x.rowAt(1, 2), 2 * NONE);
+        Wall.due("the one that had gone stays", w.x.rowAt(1, 3), 9);
         w.judge("chain a{list 0;fresh 1,6,1;copy 0,2,1,0,1;fresh 2,5,2;copy 1,0,2,1,1;log head(2,1,0);log head(1,0,1);take;}");
         Wall.due("from CARRIED ones to HEADERS", w.x.rowAt(2, 1), 9);
         Wall.due("its port", w.x.logged(1), 1000);

@@ -24,6 +24,7 @@ public final class EdgeFlowTest {
         eachFieldOfTheTable();
         flagsByClass();
         begunAgain();
+        goesOn();
         theGreatestLast();
         theGreatestLastByWrapping();
         below66000();
@@ -220,11 +221,33 @@ public final class EdgeFlowTest {
                 for (int what = 0; what <= 10; what++) {
                     Wall.due("as new from " + state + ", " + what, w.x.flow(0, what), want[what]);
                 }
-                Wall.due("packets of side 1", w.x.flowed(0, 3), 0);
+                Wall.due("packets of side 1 as new", w.x.flowed(0, 3), 0);
                 Wall.due("bytes of side 0", w.x.flowed(0, 4), 44);
                 Wall.due("bytes of side 1", w.x.flowed(0, 5), 0);
                 w.x.export();
                 Wall.due("side 1 sent nothing, has no LAST", w.x.tape(1), 1 + 32);
+            }
+        }
+    }
+
+    private static void goesOn() {
+        for (int state = 9; state <= 10; state++) {
+            for (int side = 0; side < 2; side++) {
+                for (int sort = 2; sort <= 4; sort++) {
+                    if (TABLE[2 * (state - 1) + side].charAt(sort) == '.') {
+                        continue;
+                    }
+                    Wall w = Wall.fresh();
+                    inState(state).accept(w);
+                    long packets = w.x.flowed(0, 2 + side);
+                    long others = w.x.flowed(0, 3 - side);
+                    int last = w.x.flow(0, 6 - side);
+                    step(w, side, sort);
+                    String what = "not as new, state " + state + ", side " + side + ", class " + sort;
+                    Wall.due(what + ": packets", w.x.flowed(0, 2 + side), packets + 1);
+                    Wall.due(what + ": the other's", w.x.flowed(0, 3 - side), others);
+                    Wall.due(what + ": the other's LAST", w.x.flow(0, 6 - side), last);
+                }
             }
         }
     }

@@ -105,6 +105,8 @@ public final class EdgePieceTest {
             gathered("offset 1, flags " + flags, w, 8, 0, 0, more ? 64 : 16, more ? NONE : 16);
         }
         refused("a finding", Arrays.copyOf(piece(1, 1, 0, Wall.run(8)), 31), STATE);
+        refused("a finding behind the piece", Wall.link(4, Wall.fourPiece(17, 1, 1, 0, 10, 11, Wall.run(8))), STATE);
+        refused("a finding behind PART", Wall.link(6, Wall.six(44, 10, 11, Wall.part(6, 0, 1, 5, Wall.run(8)))), STATE);
         refused("no byte", Wall.b(), STATE);
         refused("LINK alone", Wall.link(5, Wall.b()), STATE);
         refused("a piece in another FOUR", Wall.link(4, Wall.four(4, 1, 2, Wall.fourPiece(99, 1, 1, 0, 1, 2, Wall.run(8)))), STATE);

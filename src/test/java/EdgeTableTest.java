@@ -330,6 +330,8 @@ public final class EdgeTableTest {
         Wall.due("one flow", w.x.told(3), 1);
         Wall.due("no second", w.x.flow(1, 0), UNKNOWN);
         Wall.due("it is not changed", w.x.flow(0, 9), PacketWall.NONE);
+        Wall.due("so it is laid", w.x.export(), 48);
+        Wall.due("and no pool is used", w.x.pool(0, 6, 6, 3), 3);
         Wall.due("a fault in the second row", w.tape(Wall.join(row(17, 1, 7, 7), Wall.b(1))).x.restore(), -11);
         Wall.due("the flow stays", w.x.flow(0, 2), 100);
         Wall.due("its next stays", w.x.flow(0, 0), 6);

@@ -130,6 +130,29 @@ final class Wall {
         return x.verdict(0);
     }
 
+    /** Rules that must be taken, on a new wall. */
+    static void rightText(String text, int chains, int nodes) {
+        Wall w = fresh();
+        due(text, w.rules(text), chains);
+        due(text + ": wrong", w.x.wrong(), PacketWall.NONE);
+        due(text + ": chains", w.x.told(4), chains);
+        due(text + ": nodes", w.x.told(5), nodes);
+        due(text + ": the tape", w.x.told(7), 0);
+    }
+
+    /** Rules with a fault, on a new wall: it stands where the sign ^ does in the text, which is left out. */
+    static void wrongText(String marked, int fault) {
+        int at = marked.indexOf('^');
+        String text = marked.substring(0, at) + marked.substring(at + 1);
+        Wall w = fresh();
+        due(marked, w.rules(text), -10 - fault);
+        due(marked + ": wrong", w.x.wrong(), at);
+        due(marked + ": no rules", w.x.verdict(0), PacketWall.STATE);
+        due(marked + ": no chains", w.x.told(4), 0);
+        due(marked + ": no nodes", w.x.told(5), 0);
+        due(marked + ": the tape", w.x.told(7), 0);
+    }
+
     int[] wholeTape() {
         int[] bytes = new int[x.told(7)];
         for (int i = 0; i < bytes.length; i++) {
