@@ -1563,7 +1563,8 @@ public final class PacketWall {
 
         /** Copies n items that both rows have: whether all could be stored. */
         boolean copyInto(Row to, int from, int at, int n) {
-            if (this == to && from < at) {
+            // Both may be one row: then the last goes first; of like sorts none can be refused on the way.
+            if (sort == to.sort && from < at) {
                 for (int i = n - 1; i >= 0; i--) {
                     copyItem(to, from + i, at + i);
                 }

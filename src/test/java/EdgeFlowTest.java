@@ -47,6 +47,7 @@ public final class EdgeFlowTest {
         turnNumbers();
         turnsBothWays();
         turnsOfAnyPacket();
+        aPacketOfTwoFlows();
         aFlowInPlaceOfAChangedOne();
         Wall.finish();
     }
@@ -725,6 +726,27 @@ public final class EdgeFlowTest {
         Wall.due("port", w.x.field(1, 3, 0), 5000);
         w.x.read(1);
         Wall.due("of none, behind one that was turned", w.x.turn(2), STATE);
+    }
+
+    /** A host that has the changed address itself: its flow and the changed one have what side 1 sends. */
+    private static void aPacketOfTwoFlows() {
+        int[] own = Wall.datagramPacket(200, 5000, 11, 2);
+        int[] hidden = Wall.datagramPacket(10, 1, 11, 2);
+        int[] back = Wall.datagramPacket(11, 2, 200, 5000);
+        for (int changed = 0; changed < 2; changed++) {
+            Wall w = Wall.fresh();
+            w.x.pool(0, 200, 5000, 1);
+            track(w, changed == 0 ? hidden : own);
+            if (changed == 0) {
+                w.x.change(0, 0);
+            }
+            Wall.due("the second flow", track(w, changed == 0 ? own : hidden), 1);
+            if (changed == 1) {
+                w.x.change(1, 0);
+            }
+            Wall.due("the least of two flows, changed " + changed, track(w, back), 0);
+            Wall.due("turn, changed " + changed, w.x.turn(0), changed == 0 ? 1 : STATE);
+        }
     }
 
     private static void aFlowInPlaceOfAChangedOne() {
